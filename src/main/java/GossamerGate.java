@@ -350,11 +350,11 @@ public final class GossamerGate {
             keepRingKeys(i);
             hours.pass(hours.goers());
         }
-        // Only hours a whole round apart have the same HOUR coming round.
-        int round = world.land.round();
+        int round = Math.max(1, world.land.round());
         for (int first = 0; first < HOURS_RUNG; first++) {
-            for (int later = first + round; later <= HOURS_RUNG; later += round) {
-                if (sameRingKeys(first, later)) {
+            for (int later = first + 1; later <= HOURS_RUNG; later++) {
+                // Only hours a whole round apart have the same HOUR coming round.
+                if ((later - first) % round == 0 && sameRingKeys(first, later)) {
                     return what == 0 ? world.day.hour + first : later - first;
                 }
             }

@@ -54,7 +54,7 @@ public final class AskTest {
         CHECK.due("goes 0, in the air", g.goes(0), -2);
         CHECK.due("goes 1 still in hour 2", g.goes(1), 2);
         Check.put(g, "go hour - 198").rule();
-        Check.put(g, "go hour - 200").rule();
+        Check.put(g, "go hour - 199").rule();
         g.undo();
         g.force(0);
         CHECK.due("the last of 200", g.goes(0), 199);
@@ -122,6 +122,18 @@ public final class AskTest {
         CHECK.due("timing in the air", g.timing(0, 4), -1);
         GossamerGate calm = Check.country("country 2;person 0 0 9");
         CHECK.due("timing once heavy enough", calm.timing(0, 0), 9);
+        // Two rows down in hour 0 of twelve, one up in hour 9: only ten hours in the air, from an hour 0 on, lead to cell 3.
+        GossamerGate last = Check.country("country 3;wind 2 2" + Check.times(8, ";wind 0 0") + ";wind 0 1;wind 0 0;wind 0 0;person 0 0 6");
+        CHECK.due("timing 60, the last", last.timing(0, 3), 60);
+        for (int i = 0; i < 11; i++) {
+            last.hour();
+        }
+        last.tell(0, 9);
+        last.tell(0, 2);
+        CHECK.due("timing 61 is too late", last.timing(0, 3), -2);
+        last.hour();
+        last.tell(0, 1);
+        CHECK.due("timing 60 once more", last.timing(0, 3), 60);
     }
 
     private static void had() {
@@ -158,6 +170,12 @@ public final class AskTest {
         CHECK.due("the least of several", several.tangle(1), 2);
         GossamerGate late = Check.country("country 3;person 7 0 9;person 7 0 9;gate 7");
         CHECK.due("later", late.tangle(0), 9);
+        Check.put(late, "go hour - 198").rule();
+        Check.put(late, "go hour - 199").rule();
+        late.force(0);
+        CHECK.due("the last of 200", late.tangle(0), 199);
+        late.force(1);
+        CHECK.due("in none of 200", late.tangle(0), -2);
     }
 
     private static void flock() {
@@ -236,6 +254,18 @@ public final class AskTest {
         CHECK.due("neither goes: other", sea.rests(0, 1, 1, 2), 1);
         CHECK.due("three hours", sea.rests(0, 1, 3, 0), 1);
         CHECK.due("three hours: one", sea.rests(0, 1, 3, 1), 3);
+        // Ten hours in the air and then the sea are as much as never to go.
+        GossamerGate ten = Check.country("country 3" + Check.times(9, ";wind 0 0") + ";wind 0 1;person 0 60 1;person 1 60 1;gate 0;gate 1");
+        Check.put(ten, "go 1 if hour = 0").rule();
+        ten.force(0);
+        CHECK.due("all are alike", ten.rests(0, 1, 10, 0), 16);
+        CHECK.due("ahead of the sea", ten.rests(0, 1, 9, 0), 1);
+        CHECK.due("ahead of the sea: one", ten.rests(0, 1, 9, 1), 0);
+        CHECK.due("by hour 10 nothing more", ten.rests(0, 1, 20, 0), 16);
+        GossamerGate none = Check.country("country 3;wind 3 1;wind 3 1;wind 2 1;person 1 6 3;person 1 2 1;gate 8;gate 1");
+        CHECK.due("no two", none.rests(0, 1, 5, 0), 0);
+        CHECK.due("no two: one", none.rests(0, 1, 5, 1), -2);
+        CHECK.due("no two: other", none.rests(0, 1, 5, 2), -2);
         GossamerGate air = Check.country("country 3;person 0 9 1;person 1 0 9;gate 0");
         air.hour();
         CHECK.due("in the air", air.rests(0, 1, 1, 0), -1);

@@ -61,6 +61,16 @@ public final class HourTest {
         GossamerGate full = Check.country("country 2;person 0 60 9");
         full.hour();
         CHECK.due("60 at most", full.person(0, 1), 60);
+        for (int i = 1; i < 999; i++) {
+            full.hour();
+        }
+        CHECK.due("hour 999", full.count(5), 999);
+        CHECK.due("no hour by hand in 999", full.hour(), -1);
+        CHECK.due("hour 999 stays", full.count(5), 999);
+        full.gate(0);
+        CHECK.due("hours asked go on beyond", full.down(0, 0), -3);
+        CHECK.due("one goes in hour 999", full.goes(0), 999);
+        CHECK.due("ahead", full.ahead(0, 1, 1), 51);
     }
 
     private static void ways() {

@@ -68,7 +68,25 @@ public final class ModelTest {
         return isCountry ? due("country", gate.country(), model.country()) : due("rule", gate.rule(), model.rule());
     }
 
+    /** Much room, weak winds, long threads and many gates: more is in the air, and longer. */
+    private String livelyText() {
+        int side = 4 + random.nextInt(4);
+        StringBuilder s = new StringBuilder("country ").append(side);
+        for (int i = random.nextInt(6); i > 0; i--) {
+            s.append(";wind ").append(random.nextInt(4)).append(' ').append(random.nextInt(2));
+        }
+        for (int i = 2 + random.nextInt(5); i > 0; i--) {
+            s.append(";person ").append(random.nextInt(side * side)).append(' ').append(3 + random.nextInt(20));
+            s.append(' ').append(1 + random.nextInt(4));
+        }
+        for (int i = 8 + random.nextInt(16); i > 0; i--) {
+            s.append(";gate ").append(random.nextInt(side * side));
+        }
+        return s.toString();
+    }
+
     private String countryText() {
+        if (random.nextInt(2) == 0) return livelyText();
         int side = 2 + random.nextInt(6);
         int cells = side * side;
         StringBuilder s = new StringBuilder("country ").append(side);
