@@ -87,10 +87,11 @@ public final class GossamerGate {
             return NONE;
         }
         int fault = ruleReader.readInto(rules[ruleCount]);
+        // Unlike a country's, a rule's fault leaves nothing on the tape.
+        tape.length = 0;
         if (fault != 0) {
             return NO_SUCH - fault;
         }
-        tape.length = 0;
         ruleCount++;
         return ruleCount - 1;
     }

@@ -446,12 +446,13 @@ final class Model {
 
     int rule() {
         if (rules.size() == 6) return NONE;
+        String text = tape.toString();
+        tape.setLength(0);
         try {
-            rules.add(new RuleParser(tape.toString()).clauses());
+            rules.add(new RuleParser(text).clauses());
         } catch (Fault f) {
             return -2 - f.number;
         }
-        tape.setLength(0);
         return rules.size() - 1;
     }
 

@@ -65,7 +65,8 @@ public final class ModelTest {
         }
         if (!due("end " + text.length(), gate.end(text.length()), model.end(text.length()))) return false;
         log.append(text).append('\n');
-        return isCountry ? due("country", gate.country(), model.country()) : due("rule", gate.rule(), model.rule());
+        boolean fine = isCountry ? due("country", gate.country(), model.country()) : due("rule", gate.rule(), model.rule());
+        return fine && due("count 14", gate.count(14), model.count(14));
     }
 
     /** Much room, weak winds, long threads and many gates: more is in the air, and longer. */

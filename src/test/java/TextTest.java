@@ -302,12 +302,15 @@ public final class TextTest {
             if (i < 5) {
                 Check.put(g, "go");
                 CHECK.due("no rule", g.rule(), Check.fault(2, 0));
+                CHECK.due("a fault: the tape is empty, too", g.count(14), 0);
+                CHECK.due("an empty tape is no rule", g.rule(), Check.fault(0, 0));
                 CHECK.due("how many", g.count(3), i + 1);
             }
         }
         CHECK.due("seventh rule", Check.put(g, "go 1").rule(), -1);
         CHECK.due("seventh rule: the tape stays", g.count(14), 4);
         CHECK.due("seventh rule, faulty", Check.put(g, "go").rule(), -1);
+        CHECK.due("seventh rule, faulty: the tape stays", g.count(14), 2);
         CHECK.due("rules", g.count(3), 6);
     }
 
