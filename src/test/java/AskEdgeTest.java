@@ -436,6 +436,11 @@ public final class AskEdgeTest {
         GossamerGate either = Check.country("country 7;wind 1 1" + Check.times(4, ";wind 0 0") + ";person 0 60 1;person 0 60 1;gate 0");
         due3("either", either, 0, 1, 5, 2, 0, 1);
         due3("either, the other first", either, 1, 0, 5, 2, 0, 1);
+        // Person 0 may go in hours 0 and 1 alone; hour 0 is the sea. So 1 had best not be above in hour 1, though 10 would be more than 9.
+        GossamerGate given = Check.ruled("country 3;wind 0 1;wind 1 1" + Check.times(8, ";wind 0 0")
+            + ";person 1 60 1;person 4 60 1;gate 1;gate 4", "go 1 if person = 1 or hour < 2");
+        due3("by what the other does", given, 0, 1, 10, 1, 1, 1);
+        due3("by what the other does, the other first", given, 1, 0, 10, 1, 1, 1);
         GossamerGate third = Check.ruled("country 3;person 4 1 1;person 5 1 1;gate 4;gate 5", "go 1 if hour = 3");
         CHECK.due("in hour 3 none rests", third.rests(0, 1, 4, 0), 16);
         GossamerGate second = Check.ruled("country 3;person 4 1 1;person 5 1 1;gate 4;gate 5", "go 1 if hour = 2");

@@ -558,8 +558,8 @@ public final class HourEdgeTest {
         CHECK.due("none alone moves person 1", noted.ruled(1), -1);
         noted.image(0);
         noted.note(-1, 0, 0);
-        noted.note(6, 1, 3);
-        CHECK.due("rule 0 alone leaves person 1", noted.ruled(1), 0);
+        noted.note(0, 0, 0);
+        CHECK.due("by both person 0 is there", noted.ruled(0), 2);
         noted.back(0);
         CHECK.due("back: what was noted", noted.ruled(1), -1);
         CHECK.due("back: what was noted", noted.ruled(0), 1);
